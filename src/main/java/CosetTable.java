@@ -307,7 +307,7 @@ public final class CosetTable {
         void unite(int c, int d) {
             fallenCount = 0;
             fall(c, d);
-            for (int i = 0; i < fallenCount; i++) {
+            for (int i = 0; i < fallenCount && i < MAX_COSETS; i++) {
                 handOver(fallen[i]);
             }
         }
@@ -467,7 +467,7 @@ public final class CosetTable {
             Arrays.fill(numbers, UNKNOWN);
             size = 0;
             giveNextNumber(0);
-            for (int c = 0; c < size; c++) {
+            for (int c = 0; c < size && c < MAX_COSETS; c++) {
                 for (int x = 0; x < cosets.columns; x++) {
                     giveNextNumber(cosets.at(names[c], x));
                 }
@@ -560,7 +560,7 @@ public final class CosetTable {
             reached[0] = c;
             int reachedCount = 1;
             int lowest = c;
-            for (int i = 0; i < reachedCount; i++) {
+            for (int i = 0; i < reachedCount && i < size; i++) {
                 for (int k = 0; k < subgroupWords.size; k++) {
                     int d = image(reached[i], subgroupWords.words[k]);
                     if (!seen[d]) {
