@@ -353,6 +353,16 @@ public final class BoundaryTest {
         dueKnown(t, 1, 0, 0);
     }
 
+    /** "In whatever order these are done": relators and subgroup words may come in any order, too. */
+    static void termsOrderOfDrawingPlaysNoPart() {
+        for (int limit = 1; limit <= 4; limit++) {
+            String one = state(groupRun(2, "abA BBab", "", limit));
+            dueSame("relators, run(" + limit + ")", state(groupRun(2, "BBab abA", "", limit)), one);
+            one = state(groupRun(2, "", "abA BA", limit));
+            dueSame("subgroup words, run(" + limit + ")", state(groupRun(2, "", "BA abA", limit)), one);
+        }
+    }
+
     /** "A step: for the least c": a fallen name, whose letters are not known, is no coset. */
     static void termsStepPassesOverFallenNames() {
         CosetTable t = openWithFallen();
@@ -1318,6 +1328,16 @@ public final class BoundaryTest {
         t = six();
         spell(t, "b");
         due("two cycles of 3: order()", t.order(), 3);
+    }
+
+    /** "long order()": cycles of 26, 11, 7, 17, 23, 29, 16, 5, 3, 2 and 1, too much for an int. */
+    static void promise14BeyondAnInt() {
+        CosetTable t = group(2, "aBaaBa bababa BaBaBaBa", "aaaabbaaaa baaBBaaa aabaabaB baaaaaaa");
+        due("run(200)", t.run(200), 174);
+        due("index", t.count(4), 144);
+        spell(t, "BBBabAAABaBBBaabAAAAAA");
+        due("cycles(false)", t.cycles(false), 14);
+        due("order()", t.order(), 2724081360L);
     }
 
     // Promise 15: "How many cosets are moved by none of the subgroup words. BAD: the table is not
