@@ -38,6 +38,7 @@ public final class PromiseTest {
         testOrbit();
         testOrbitIsJoinedBySeveralWords();
         testCompleteTableIsAskedAlone();
+        testExampleOfReadme();
         System.out.println(wrong == 0 ? "all promises hold" : wrong + " answers are not as due");
         if (wrong != 0) {
             System.exit(1);
@@ -643,5 +644,15 @@ public final class PromiseTest {
         due("orbit", t.orbit(0), BAD);
         t.run(200);
         due("ab is nothing now", t.count(4), 2);
+    }
+
+    private static void testExampleOfReadme() {
+        CosetTable t = group(2, "aa bbb abab", "a");
+        due("run(200)", t.run(200), 3);
+        due("count(4)", t.count(4), 3);
+        spell(t, "ab");
+        due("move(0)", t.move(0), 1);
+        due("order()", t.order(), 2);
+        due("cycles(true)", t.cycles(true), 1);
     }
 }
