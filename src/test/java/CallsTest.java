@@ -73,6 +73,9 @@ public final class CallsTest {
 
         void playAll() {
             int before = wrong;
+            if (keeps) {
+                callBegin();
+            }
             while (calls < CALLS && wrong == before) {
                 switch (lot.nextInt(12)) {
                     case 0: callBegin(); break;
@@ -134,11 +137,10 @@ public final class CallsTest {
 
         /** Some objects keep what they were given, so that their lists become full. */
         private void callBegin() {
-            if (keeps) {
-                return;
+            if (!keeps || calls == 0) {
+                int n = lot.nextInt(3) == 0 && calls > 0 ? anyNumber() : 1 + lot.nextInt(3);
+                due("begin", "" + n, table.begin(n), model.begin(n));
             }
-            int n = lot.nextInt(3) == 0 ? anyNumber() : 1 + lot.nextInt(3);
-            due("begin", "" + n, table.begin(n), model.begin(n));
         }
 
         private void callLetter(int x) {
